@@ -33,6 +33,7 @@ public final class PromisesTest {
         t.judgedBreaks();
         t.comes();
         t.comesAround();
+        t.comesAtTheEdges();
         t.comesFromTooNear();
         t.hinders();
         t.posts();
@@ -40,6 +41,7 @@ public final class PromisesTest {
         t.more();
         t.both();
         t.broker();
+        t.brokerAtTheEdges();
         t.brokerThings();
         t.brokerClear();
         t.other();
@@ -563,6 +565,8 @@ public final class PromisesTest {
         due("worth", 20, x.judged(2));
         tell(1, "=10;=02");
         due("one of them has", 1, x.judged(0));
+        tell(1, "=01;=02");
+        due("the first of them has", 1, x.judged(0));
         tell(1, "=32;=02");
         due("the other one has", 1, x.judged(0));
         due("worth", 10, x.judged(2));
@@ -573,8 +577,18 @@ public final class PromisesTest {
         due("stays from there on", 12 * 32 + 5, x.ends(2));
         tell(1, "02");
         due("upon another", 0, x.judged(0));
+        x.set(1, 4);
+        tell(1, "=01");
+        due("another is nearer", 0, x.judged(0));
+        tell(1, "44;44;=01");
+        due("and then no more", NONE, x.judged(0));
+        x.set(1, 0);
         tell(1, "34;=13");
         due("one must stand so", 1, x.judged(0));
+        due("none done", 0, x.judged(1));
+        field("n0000506;s1200505;b1301605", 22, 10, 2);
+        tell(1, "=12");
+        due("the first one is nearer", 0, x.judged(0));
         due("none done", 0, x.judged(1));
     }
 
@@ -644,6 +658,18 @@ public final class PromisesTest {
             x.step(0, x.way(0, 1, 0));
         }
         due("binds behind it", 0, x.binds(0, 1, 0));
+    }
+
+    private void comesAtTheEdges() {
+        field("s1200302;b1301100", 22, 0, 2);
+        due("to the first spot", 3, x.comes(0, 1));
+        wayIs(6, 7, 7, NONE);
+        field("s1202929;b1302031", 22, 0, 2);
+        due("to the last spot", 2, x.comes(0, 1));
+        wayIs(3, 3, NONE);
+        field("s1200028;b1300031", 2, 0, 2);
+        due("not beyond the field", 2, x.comes(0, 1));
+        wayIs(3, 5, NONE);
     }
 
     private void comesFromTooNear() {
@@ -740,6 +766,16 @@ public final class PromisesTest {
         x.set(0, 1);
         due("by an odd one none", 0, x.more(0));
         due("by an odd one none", 0, x.more(1));
+        x.gone();
+        x.set(0, 22);
+        due("behind gone", 0, x.more(1));
+        // five paces from 0, 32, which is no SPOT
+        x.set(0, 10);
+        x.post(27 * 32);
+        x.post(28 * 32 + 3);
+        x.post(29 * 32 + 4);
+        due("not beyond the field", 2, x.more(1));
+        due("not beyond the field", 23 * 32 + 3, x.more(0));
     }
 
     // ---- 24 both
@@ -761,6 +797,18 @@ public final class PromisesTest {
         due("both 3", BAD, x.both(0, 3, NONE));
         due("both 3", BAD, x.both(3, 0, NONE));
         due("both -1", BAD, x.both(-1, 0, NONE));
+        x.gone();
+        x.post(11);
+        x.post(11 * 32);
+        due("the first spot", 2, x.both(0, 1, NONE));
+        due("the first spot", 0, x.both(0, 1, 0));
+        due("the second", 11 * 32 + 11, x.both(0, 1, 1));
+        x.gone();
+        x.set(0, 2);
+        x.post(31 * 32);
+        x.post(31 * 32);
+        due("not beyond the field", 2, x.both(0, 1, NONE));
+        due("not beyond the field", NONE, x.both(0, 1, 2));
         x.gone();
         x.set(0, 10);
         x.post(10 * 32 + 10);
@@ -795,6 +843,18 @@ public final class PromisesTest {
         due("of one thing", NONE, x.broker(0));
         field("s1200505;b1301616", 22, 18, 2);
         due("the lesser of two", 5 * 32 + 16, x.broker(0));
+    }
+
+    private void brokerAtTheEdges() {
+        field("s1201100;b1300011", 22, 18, 2);
+        due("on the first spot", 0, x.broker(0));
+        field("s1202031;b1303120", 22, 18, 2);
+        due("the lesser of two", 20 * 32 + 20, x.broker(0));
+        field("s1202031;b1303120;n0002020", 22, 18, 2);
+        due("on the last spot", 1023, x.broker(0));
+        // five paces from 0, 32, which is no SPOT, and from 3, 23, where somebody stands
+        field("s1200027;b1300328;n0000323", 10, 2, 2);
+        due("not beyond the field", NONE, x.broker(0));
     }
 
     private void brokerThings() {
