@@ -388,10 +388,13 @@ public final class ElevenPaces {
         for (int what = 0; what <= 2; what++) {
             h = mixed(h, trial.result(what));
         }
-        h = mixed(mixed(mixed(h, sees()), more(0)), more(1));
+        int square = market.square(DUE);
+        int spot = posts.bestSpot(square);
+        h = mixed(mixed(mixed(h, posts.pairsAt(square)), spot), posts.seenFrom(spot, square));
         stall.seek();
         h = mixed(mixed(h, stall.bestSpot), stall.mostProfit);
-        h = mixed(mixed(h, other(10, 30, 0)), other(10, 30, 1));
+        int due = market.bestDue(10, 30);
+        h = mixed(mixed(h, due), market.bindingPairs(due));
         return crowd.size >= 2 ? mixed(h, walk.search(0, 1)) : h;
     }
 
@@ -725,7 +728,7 @@ public final class ElevenPaces {
         /** Bytes beyond the end are like wrong ones, so that a text not ended has its FAULT there. */
         private int faultOf(Text text, int people) {
             int start = 0;
-            while (size < MOST_PARTS) {
+            for (int part = 0; part < MOST_PARTS; part++) {
                 boolean done = text.at(start) == '=';
                 int i = done ? start + 1 : start;
                 int first = figure(text.at(i));
@@ -733,10 +736,14 @@ public final class ElevenPaces {
                 if (first == NONE || first >= people) {
                     return i;
                 }
-                if (second == NONE || done && (second >= people || second == first) || !done && !isDirection(second)) {
+                boolean fits = done ? second != first && second < people : isDirection(second);
+                if (second == NONE || !fits) {
                     return i + 1;
                 }
-                add(done, first, second);
+                isDone[part] = done;
+                one[part] = first;
+                two[part] = second;
+                size = part + 1;
                 if (i + 2 == text.length()) {
                     return NONE;
                 }
@@ -746,15 +753,6 @@ public final class ElevenPaces {
                 start = i + 3;
             }
             return start;
-        }
-
-        private void add(boolean done, int first, int second) {
-            if (size < MOST_PARTS) {
-                isDone[size] = done;
-                one[size] = first;
-                two[size] = second;
-                size++;
-            }
         }
     }
 
@@ -899,7 +897,7 @@ public final class ElevenPaces {
             Arrays.fill(steps, UNKNOWN);
             queued = 0;
             queueGoals(a, b, start);
-            for (int head = 0; head < queued && steps[start] == UNKNOWN; head++) {
+            for (int head = 0; head < SPOTS && head < queued && steps[start] == UNKNOWN; head++) {
                 queueNeighbours(a, queue[head], start);
             }
             return steps[start] == UNKNOWN ? NONE : steps[start];
