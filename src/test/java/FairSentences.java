@@ -91,6 +91,18 @@ final class FairSentences extends Ground {
         due("count(3) of twenty parts", 20, x.count(3));
         due("type() of the 60th byte", 60, x.type(1, ';'));
         due("fault(1), not ended and full", 60, x.fault(1));
+        String fifteen = "=01;=01;=01;=01;=01;=01;=01;=01;=01;=01;=01;=01;=01;=01;=01";
+        tell(1, fifteen);
+        due("fault(1) of fifteen DONE", NONE, x.fault(1));
+        due("count(3) of fifteen DONE", 15, x.count(3));
+        tell(1, fifteen + ";");
+        due("fault(1), not ended and full", 60, x.fault(1));
+        tell(1, fifteen.substring(4) + ";04;=");
+        due("fault(1) of a last =, full", 60, x.fault(1));
+        tell(1, fifteen.substring(4) + ";04;0");
+        due("fault(1) of a last figure, full", 60, x.fault(1));
+        tell(1, fifteen.substring(4) + ";=01x");
+        due("fault(1) of a last byte that is wrong, full", 59, x.fault(1));
     }
 
     private void whomThereIsNot() {
@@ -179,7 +191,8 @@ final class FairSentences extends Ground {
     private void noneTwice() {
         says(TERMS, "and none of the two may have DONE one before.");
         field(FOUR, 22, 0, 2);
-        String[] fairs = {"=01;=01", "=01;=10", "=01;=02", "=01;=20", "=23;=02", "=23;=20", "=02;=01", "=32;=31"};
+        String[] fairs = {"=01;=01", "=01;=10", "=01;=02", "=01;=20", "=23;=02", "=23;=20", "=02;=01",
+            "=10;=02", "=10;=20", "=32;=02", "=32;=20", "=20;=01", "=20;=10", "=02;=23", "=02;=32"};
         for (String fair : fairs) {
             tell(1, fair);
             due("judged(0) of " + fair, 1, x.judged(0));

@@ -210,6 +210,8 @@ final class FieldSentences extends Ground {
         due("too near to one in the middle", NOT, x.step(0, 6));
         due("too near to the last one", NOT, x.step(0, 4));
         due("near to none", 1, x.step(0, 0));
+        field("n0001010;n0001210", 22, 18, 3);
+        due("too near to one who is told ahead", NOT, x.step(1, 6));
         field("n0001010;n0001310", 22, 18, 4);
         due("aslant, 4 times 5 is at least 16", 1, x.step(0, 1));
         field("n0001010;n0001310", 22, 18, 5);

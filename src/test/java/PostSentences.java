@@ -109,6 +109,10 @@ final class PostSentences extends Ground {
         bothIs(0, 1, 11, at(0, 11));
         posts(1023, 1023);
         bothIs(0, 1, at(31, 20), at(20, 31));
+        posts(at(11, 0), at(0, 11));
+        bothIs(0, 1, 0, at(11, 11));
+        posts(at(20, 31), at(31, 20));
+        bothIs(0, 1, at(20, 20), 1023);
         x.set(0, 10);
         posts(at(10, 10), at(10, 10));
         bothIs(0, 1, at(10, 5), at(7, 6), at(13, 6), at(6, 7), at(14, 7), at(5, 10), at(15, 10),

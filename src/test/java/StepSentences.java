@@ -124,6 +124,10 @@ final class StepSentences extends Ground {
 
     private void leastRow() {
         says(TERMS, "the least row of DIRECTIONS of these: the i-th.");
+        field("s1201021;b1301008", 22, 0, 2);
+        wayIs(0, 0);
+        field("s1201022;b1301108", 22, 0, 2);
+        wayIs(0, 0, 1);
         field("s1201000;b1301010", 10, 0, 2);
         wayIs(3, 3, 4, 5, 5);
         field("s1200005;b1301605", 22, 0, 2);

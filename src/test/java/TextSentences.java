@@ -267,6 +267,7 @@ final class TextSentences extends Ground {
         tell(0, "xxxx");
         due("wipe(0) of one with a FAULT", 4, x.wipe(0));
         due("fault(0)", NONE, x.fault(0));
+        wipedIsGone();
 
         says(3, "BAD.");
         tell(0, TWO);
@@ -274,6 +275,29 @@ final class TextSentences extends Ground {
             due("wipe(" + text + ")", BAD, x.wipe(text));
         }
         due("count(1)", 17, x.count(1));
+    }
+
+    /** Nothing of what was told before a text was wiped is looked at behind that. */
+    private void wipedIsGone() {
+        tell(0, TWO);
+        tell(1, "=01;04");
+        due("judged(1) of a FAIR", 1, x.judged(1));
+        due("wipe(1) of a FAIR that is well", 6, x.wipe(1));
+        due("count(3)", 0, x.count(3));
+        due("judged(0)", NONE, x.judged(0));
+        due("judged(1)", 0, x.judged(1));
+        due("ends(0)", at(5, 5), x.ends(0));
+        String[] ends = {"=", "=0", "=01;", "0", "00;", "00;1"};
+        for (String s : ends) {
+            tell(1, "=01;04;=10;13");
+            tell(1, s);
+            due("fault(1) of " + s + " behind a longer text", s.length(), x.fault(1));
+        }
+        for (int length = 1; length < TWO.length(); length++) {
+            tell(0, TWO);
+            tell(0, TWO.substring(0, length));
+            due("fault(0) of " + length + " bytes behind a longer text", length == 8 ? NONE : length, x.fault(0));
+        }
     }
 
     private void fault() {
