@@ -23,7 +23,9 @@ final class Book {
         endOfSentence();
         where = heading(promise) + ", '" + words + "': ";
         opened.add(promise);
-        check.that(where + "is in the document", squeezed(under(promise)).contains(squeezed(words)));
+        if (!document.isEmpty()) {
+            check.that(where + "is in the document", squeezed(under(promise)).contains(squeezed(words)));
+        }
         looked = 0;
     }
 
