@@ -88,6 +88,11 @@ final class PostSentences extends Ground {
         x.set(0, 2);
         moreIs("beside the edge", 30, 1, 31);
         moreIs("not over the edge, where 32 follows 31", 1, 1, 31, 33);
+        moreIs("beside the first SPOT", 1, 1, 0);
+        x.set(0, 10);
+        // five paces from 0, 32, which is no SPOT
+        moreIs("not beyond the field", at(3, 23), 2, at(0, 27), at(3, 28), at(4, 29));
+        x.set(0, 2);
         moreIs("upon another POST", at(5, 5), 2, at(4, 5), at(6, 5), at(5, 5));
     }
 
@@ -113,6 +118,10 @@ final class PostSentences extends Ground {
         bothIs(0, 1, 0, at(11, 11));
         posts(at(20, 31), at(31, 20));
         bothIs(0, 1, at(20, 20), 1023);
+        x.set(0, 2);
+        posts(0, 0, at(0, 31), at(0, 31));
+        bothIs(0, 1, 1, at(0, 1));
+        bothIs(2, 3, at(0, 30), at(1, 31));
         x.set(0, 10);
         posts(at(10, 10), at(10, 10));
         bothIs(0, 1, at(10, 5), at(7, 6), at(13, 6), at(6, 7), at(14, 7), at(5, 10), at(15, 10),
@@ -230,6 +239,12 @@ final class PostSentences extends Ground {
         brokerIs("the first SPOT", 0, 10);
         field("s1202031;b1303120;n0002020", 22, 18, 2);
         brokerIs("the last SPOT", 1023, 10);
+        // -1, 0 would be five paces from both, too
+        field("s1200400;b1300303", 10, 0, 2);
+        brokerIs("not ahead of the field", at(8, 3), 10);
+        // 0, 32 would be the only one left
+        field("s1200027;b1300328;n0000323", 10, 2, 2);
+        brokerIs("not behind the field", NONE, 0);
         // 4, 32 would be five paces from both, but is no SPOT
         field("s1200029;b1300829", 10, 0, 2);
         brokerIs("not beyond the field", at(4, 26), 10);

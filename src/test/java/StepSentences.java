@@ -39,6 +39,8 @@ final class StepSentences extends Ground {
         due("comes(0, 1), away from the other one", 11, x.comes(0, 1));
         field("s1200028;b1300031", 2, 0, 2);
         due("comes(0, 1), not beyond the field", 2, x.comes(0, 1));
+        field("s1200300;b1300000", 2, 0, 2);
+        due("comes(0, 1), not ahead of the field", 2, x.comes(0, 1));
     }
 
     private void othersStandStill() {
