@@ -289,11 +289,14 @@ final class TextSentences extends Ground {
         due("ends(0)", at(5, 5), x.ends(0));
         String[] ends = {"=", "=0", "=01;", "0", "00;", "00;1"};
         for (String s : ends) {
+            fresh();
+            tell(0, TWO);
             tell(1, "=01;04;=10;13");
             tell(1, s);
             due("fault(1) of " + s + " behind a longer text", s.length(), x.fault(1));
         }
         for (int length = 1; length < TWO.length(); length++) {
+            fresh();
             tell(0, TWO);
             tell(0, TWO.substring(0, length));
             due("fault(0) of " + length + " bytes behind a longer text", length == 8 ? NONE : length, x.fault(0));
