@@ -52,11 +52,23 @@ public final class LanguageTest {
     private static final Check check = new Check();
 
     public static void main(String[] args) throws Exception {
+        faceOfTheDocument(Path.of(System.getProperty("document", "../shared/DOC.md")));
         face();
         classesInside();
         staticFields();
         source(Files.readString(Path.of(System.getProperty("source", "src/main/java/ElevenPaces.java"))));
         check.end();
+    }
+
+    /** So that the face above stays the document's own, where that is beside the project. */
+    private static void faceOfTheDocument(Path document) throws Exception {
+        if (!Files.exists(document)) return;
+        Set<String> told = new TreeSet<>();
+        Matcher call = Pattern.compile("(?m)^ +public ((?:int|long) \\w+)\\(([^)]*)\\);$").matcher(Files.readString(document));
+        while (call.find()) {
+            told.add(call.group(1) + "(" + call.group(2).replaceAll(" \\w+(, )?", ",").replaceAll(",$", "") + ")");
+        }
+        check.that("'The public face' of the document: " + told, told.equals(new TreeSet<>(List.of(FACE.strip().split("\n")))));
     }
 
     private static void face() throws Exception {

@@ -107,14 +107,14 @@ public final class OracleTest {
     }
 
     private void moves(int what) {
-        int a = one(), b = one(), c = num(5), d = num(8);
+        int a = one(), b = one(), c = num(5), d = num(8), i = r.nextBoolean() ? c : num(40);
         if (what < 14) due("step " + a + " " + d, x.step(a, d), o.step(a, d));
         else if (what < 17) due("person " + a + " " + c, x.person(a, c), o.person(a, c));
         else if (what < 19) due("away " + a + " " + b, x.away(a, b), o.away(a, b));
         else if (what < 20) due("home", x.home(), o.home());
         else if (what < 25) settings();
         else if (what < 27) due("comes " + a + " " + b, x.comes(a, b), o.comes(a, b));
-        else if (what < 30) due("way " + a + " " + b + " " + c, x.way(a, b, c), o.way(a, b, c));
+        else if (what < 30) due("way " + a + " " + b + " " + i, x.way(a, b, i), o.way(a, b, i));
         else if (what < 33) due("hinders " + a, x.hinders(a, c / 2), o.hinders(a, c / 2));
         else texts();
     }
